@@ -19,6 +19,7 @@ public final class ModelTest {
     private final int persons;
     private final int places;
     private final int wildPercent;
+    private final int fillingCalls;
     private int records = 0;
     private int copies = 0;
     private int holds = 0;
@@ -30,7 +31,8 @@ public final class ModelTest {
         this.run = "run " + seed + ": ";
         // Few records and places make long queues, many make the limits: both kinds of run are wanted.
         this.mostRecords = 1 + random.nextInt(seed % 3 == 0 ? 40 : 4);
-        this.persons = 5 + random.nextInt(36);
+        this.fillingCalls = seed % 4 == 0 ? 300 : 0;
+        this.persons = fillingCalls > 0 ? 40 : 5 + random.nextInt(36);
         this.places = 1 + random.nextInt(6);
         this.wildPercent = seed % 5 == 0 ? 20 : 2;
     }
@@ -40,10 +42,26 @@ public final class ModelTest {
         for (int seed = 1; seed <= RUNS && checks.wrong() < MOST_WRONG; seed++) {
             ModelTest test = new ModelTest(checks, seed);
             for (int n = 0; n < CALLS; n++) {
-                test.makeCall();
+                if (n < test.fillingCalls) {
+                    test.fill();
+                } else {
+                    test.makeCall();
+                }
             }
         }
         checks.end();
+    }
+
+    /** A call that makes more: a run of these comes to the last copy and the last hold. */
+    private void fill() {
+        int choice = random.nextInt(10);
+        if (choice < 2) {
+            record();
+        } else if (choice < 5) {
+            copy();
+        } else {
+            hold();
+        }
     }
 
     private void makeCall() {

@@ -47,6 +47,7 @@ public final class PromisesTest {
         promise16Order();
         promise17State();
         promise18Where();
+        lastNumbersLiveAsTheFirst();
         CHECKS.end();
     }
 
@@ -166,6 +167,7 @@ public final class PromisesTest {
             due("hold at place " + wrong, q.hold(0, 1, wrong, 0), 0);
         }
         due("hold of person 0", q.hold(0, 1, 0, 0), 1);
+        due("second on the record at once", q.hold(0, 1, 0, 0), 0);
         due("hold of person 39 at place 5", q.hold(39, 1, 5, 0), 2);
         q.copy(1, 1);
         due("second on the record while WAITING", q.hold(0, 1, 0, 0), 0);
@@ -736,5 +738,35 @@ public final class PromisesTest {
         due("where(1, 0)", q.where(1, 0), state);
         due("where(1, 1)", q.where(1, 1), place);
         due("where(1, 2)", q.where(1, 2), hold);
+    }
+
+    /** The last record, copy, person, place and hold go through what the first ones do. */
+    private static void lastNumbersLiveAsTheFirst() {
+        HoldQueue q = new HoldQueue();
+        for (int n = 1; n <= 30; n++) {
+            q.record(3);
+        }
+        for (int n = 1; n <= 60; n++) {
+            q.copy(30, 5);
+        }
+        for (int n = 1; n <= 119; n++) {
+            q.hold(39, 30, 5, 0);
+            q.cancel(n);
+        }
+        due("the last hold", q.hold(39, 30, 5, Integer.MAX_VALUE), 120);
+        due("suspend the last hold", q.suspend(120, 3), 1);
+        due("the last copy back while it is suspended", q.back(60, 4), 0);
+        due("lend the last copy", q.lend(60), 1);
+        due("rank of the last hold", q.rank(120, 5), 0);
+        due("order of the last record", q.order(30, 0), 120);
+        due("the day 3", q.tick(3), 0);
+        due("the last copy back", q.back(60, 4), 120);
+        due("the copy of the last hold", q.state(120, 1), 60);
+        due("the hold of the last copy", q.where(60, 2), 120);
+        due("the last copy arrives", q.arrive(60), 1);
+        due("the last hold does not expire yet", q.tick(10), 0);
+        due("the last hold expires", q.tick(11), 1);
+        due("the last copy is FREE", q.where(60, 0), FREE);
+        due("where it arrived", q.where(60, 1), 5);
     }
 }
