@@ -374,6 +374,29 @@ public final class BoundaryTest {
         house.cancel(1);
         due("one more after a cancel", house.hold(0, 1, 0, 0), 0);
         due("nothing in its queue", house.order(4, 0), 0);
+        lastHoldDoesAllThatOthersDo();
+    }
+
+    private static void lastHoldDoesAllThatOthersDo() {
+        about("Terms: A HOLD, 1 .. 120: the last");
+        House house = Scenes.fullButForOneHold();
+        due("120 is none yet", house.suspend(120, 1), 0);
+        due("hold", house.hold(39, 30, 5, LEAST), 120);
+        due("its place in the queue", house.state(120, 2), 0);
+        due("suspend", house.suspend(120, 6), 1);
+        due("the copy of its record passes it by", house.back(30, 5), 30);
+        due("rank", house.rank(120, GREATEST), 2);
+        due("rank again", house.rank(120, LEAST), 0);
+        house.tick(6);
+        due("its suspension is over", house.back(60, 4), 120);
+        due("IN TRANSIT", house.state(120, 0), IN_TRANSIT);
+        due("arrive", house.arrive(60), 1);
+        due("hold 30 expires before it", house.tick(13), 1);
+        due("it is READY", house.state(120, 0), READY);
+        due("its copy", house.state(120, 1), 60);
+        due("it expires", house.tick(14), 1);
+        due("EXPIRED", house.state(120, 0), EXPIRED);
+        due("121 is none", house.hold(39, 30, 5, LEAST), 0);
     }
 
     private static void holdLimits() {
@@ -504,12 +527,28 @@ public final class BoundaryTest {
         house.back(1, 0);
         due("a copy that is ready for another", house.hold(1, 2, 0, LEAST), 3);
         due("it waits", house.state(3, 0), WAITING);
-        house.cancel(2);
-        house.pick(3);
-        house.back(1, 0);
-        due("a FREE copy of another record", house.hold(2, 1, 0, 0), 4);
-        due("it waits", house.state(4, 0), WAITING);
-        due("the copy stays FREE", house.where(1, 0), FREE);
+        onlyOtherRecordsHaveAFreeCopy();
+    }
+
+    private static void onlyOtherRecordsHaveAFreeCopy() {
+        about("5: if a copy of the record is FREE: only the records beside it have one");
+        House house = withRecords(3);
+        house.copy(1, 0);
+        house.copy(3, 0);
+        house.copy(2, 0);
+        house.hold(0, 2, 0, 0);
+        house.suspend(1, 1);
+        for (int copy = 1; copy <= 3; copy++) {
+            house.back(copy, 0);
+        }
+        house.hold(1, 2, 0, 5);
+        due("the record's own copy is TRAPPED, of a greater number", house.where(3, 2), 2);
+        house.suspend(1, 0);
+        house.hold(2, 2, 0, 5);
+        due("then none is: it waits", house.state(3, 0), WAITING);
+        due("the first too", house.state(1, 0), WAITING);
+        due("the copy of the record before stays FREE", house.where(1, 0), FREE);
+        due("that of the record behind too", house.where(2, 0), FREE);
     }
 
     private static void leastFreeCopy() {
@@ -884,7 +923,21 @@ public final class BoundaryTest {
         house.hold(0, 1, 1, 0);
         house.cancel(2);
         due("CANCELLED", house.pick(2), 0);
+        pickOfTheLastCopy();
         pickUntilTheEnd();
+    }
+
+    private static void pickOfTheLastCopy() {
+        about("10: the copy (it is OUT, the hold DONE), of number 60");
+        House house = withCopies(60);
+        house.hold(39, 1, 5, 0);
+        house.back(60, 5);
+        due("pick(1)", house.pick(1), 60);
+        due("the copy is OUT", house.where(60, 0), OUT);
+        due("the copy has no hold", house.where(60, 2), 0);
+        due("the hold is DONE", house.state(1, 0), DONE);
+        due("no copy is TRAPPED for it", house.state(1, 1), 0);
+        due("it is in no queue", house.state(1, 2), NONE);
     }
 
     private static void pickUntilTheEnd() {

@@ -93,8 +93,16 @@ final class Scenes {
         house.bar(3, true);
     }
 
-    /** All 30 records, 60 copies and 120 holds; copy 1 is FREE, though hold 1 fits it by now. */
+    /** All 30 records, 60 copies and 120 holds, the last CANCELLED; copy 1 is FREE, though hold 1 fits it by now. */
     static House full() {
+        House house = fullButForOneHold();
+        house.hold(39, 30, 5, 0);
+        house.cancel(120);
+        return house;
+    }
+
+    /** Three holds of each person, but for the last person, who may have 20 and has two. */
+    static House fullButForOneHold() {
         House house = new House();
         for (int n = 0; n < 30; n++) {
             house.record(n % 4);
@@ -102,7 +110,7 @@ final class Scenes {
         for (int n = 0; n < 60; n++) {
             house.copy(1 + n % 30, n % 6);
         }
-        for (int n = 0; n < 120; n++) {
+        for (int n = 0; n < 119; n++) {
             house.hold(n / 3, 1 + n % 30, n % 6, n % 7);
         }
         for (int n = 1; n <= 91; n += 30) {
@@ -111,7 +119,6 @@ final class Scenes {
         house.back(1, 0);
         house.tick(4);
         house.most(39, 20);
-        house.cancel(120);
         return house;
     }
 }
