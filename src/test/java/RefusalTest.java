@@ -85,7 +85,8 @@ public final class RefusalTest {
             CHECKS.due("busy: state of hold " + hold, house.state(hold, 0), Scenes.BUSY_STATES[hold - 1]);
         }
         for (int copy = 1; copy <= Scenes.LAST_BUSY_COPY; copy++) {
-            CHECKS.due("busy: where copy " + copy + " is", house.where(copy, 0), Scenes.BUSY_STATES_OF_COPIES[copy - 1]);
+            int due = Scenes.BUSY_STATES_OF_COPIES[copy - 1];
+            CHECKS.due("busy: where copy " + copy + " is", house.where(copy, 0), due);
         }
         CHECKS.due("busy: records", house.records(), Scenes.LAST_BUSY_RECORD);
         CHECKS.due("busy: holds", house.holds(), Scenes.LAST_BUSY_HOLD);
