@@ -732,6 +732,7 @@ public final class BoundaryTest {
 
     private static void suspendOneThatIsNotWaiting() {
         about("7: 0 if there is none such, or it is not WAITING");
+        due("WAITING where there is no copy at all", withLongestQueue().suspend(40, 5), 1);
         House house = withCopies(1);
         due("none yet", house.suspend(1, 5), 0);
         house.hold(0, 1, 1, 0);
